@@ -108,13 +108,11 @@ public final class Speedrunnery {
         return before;
     }
 
-    public int itemIn(int room)
-            throws IndexOutOfBoundsException {
+    public int itemIn(int room) throws IndexOutOfBoundsException {
         return roomAt(room).item;
     }
 
-    public int shuffle(int seed)
-            throws UnsupportedOperationException {
+    public int shuffle(int seed) throws UnsupportedOperationException {
         refuseIfSubmitted();
         return game.shuffleFrom(seed);
     }
@@ -124,8 +122,7 @@ public final class Speedrunnery {
         return game.sphereCount;
     }
 
-    public int sphereOf(int item)
-            throws IllegalArgumentException, NoSuchElementException {
+    public int sphereOf(int item) throws IllegalArgumentException, NoSuchElementException {
         if (!isBelow(item, ITEMS)) {
             throw new IllegalArgumentException("no such item");
         }
@@ -139,8 +136,7 @@ public final class Speedrunnery {
 
     // ---- the movie
 
-    public int input(int door)
-            throws IndexOutOfBoundsException, IllegalStateException {
+    public int input(int door) throws IndexOutOfBoundsException, IllegalStateException {
         if (!isBelow(door, game.doorCount)) {
             throw new IndexOutOfBoundsException("no such door");
         }
@@ -149,8 +145,7 @@ public final class Speedrunnery {
         return movie.length;
     }
 
-    public int pause(int frames)
-            throws IllegalArgumentException, IllegalStateException {
+    public int pause(int frames) throws IllegalArgumentException, IllegalStateException {
         if (!isWait(frames)) {
             throw new IllegalArgumentException("frames out of range");
         }
@@ -169,8 +164,7 @@ public final class Speedrunnery {
         return playMovie().fate;
     }
 
-    public int desync()
-            throws NoSuchElementException {
+    public int desync() throws NoSuchElementException {
         Playthrough played = playMovie();
         if (played.fate == FITS) {
             throw new NoSuchElementException("no desync");
@@ -186,16 +180,14 @@ public final class Speedrunnery {
         return playMovie().had;
     }
 
-    public long ticks(char clock)
-            throws IllegalArgumentException {
+    public long ticks(char clock) throws IllegalArgumentException {
         refuseUnlessClock(clock);
         return playMovie().total(clock);
     }
 
     // ---- categories and splits
 
-    public int category()
-            throws IllegalStateException {
+    public int category() throws IllegalStateException {
         int number = categoryCount;
         if (number >= MOST_CATEGORIES) {
             throw new IllegalStateException("no more categories");
@@ -222,14 +214,12 @@ public final class Speedrunnery {
         return changed.changes;
     }
 
-    public char judge(int category)
-            throws IndexOutOfBoundsException {
+    public char judge(int category) throws IndexOutOfBoundsException {
         Rules rules = categoryAt(category).rulesOn(today);
         return rules.verdict(playMovie());
     }
 
-    public int split(int category, int room)
-            throws IndexOutOfBoundsException, IllegalStateException {
+    public int split(int category, int room) throws IndexOutOfBoundsException, IllegalStateException {
         Category changed = categoryAt(category);
         Room added = roomAt(room);
         int count = changed.splitCount;
@@ -241,8 +231,7 @@ public final class Speedrunnery {
         return changed.splitCount;
     }
 
-    public long gold(int category, int segment)
-            throws IndexOutOfBoundsException, NoSuchElementException {
+    public long gold(int category, int segment) throws IndexOutOfBoundsException, NoSuchElementException {
         Category asked = categoryAt(category);
         if (segment < 0 || segment > asked.splitCount) {
             throw new IndexOutOfBoundsException("no such segment");
@@ -251,8 +240,7 @@ public final class Speedrunnery {
         return goldOnBoard(asked, segment);
     }
 
-    public long best(int category)
-            throws IndexOutOfBoundsException, NoSuchElementException {
+    public long best(int category) throws IndexOutOfBoundsException, NoSuchElementException {
         Category asked = categoryAt(category);
         fillBoard(asked, today);
         long sum = 0;
@@ -264,8 +252,7 @@ public final class Speedrunnery {
 
     // ---- routes
 
-    public long route(int category)
-            throws IndexOutOfBoundsException, NoSuchElementException {
+    public long route(int category) throws IndexOutOfBoundsException, NoSuchElementException {
         reckonRoute(categoryAt(category));
         return routes.time;
     }
@@ -280,8 +267,7 @@ public final class Speedrunnery {
         return routes.doorNumber(asked.rulesOn(today), index);
     }
 
-    public boolean isShortest(int category)
-            throws IndexOutOfBoundsException {
+    public boolean isShortest(int category) throws IndexOutOfBoundsException {
         return nothingIsFaster(categoryAt(category));
     }
 
@@ -299,16 +285,15 @@ public final class Speedrunnery {
         if (number >= MOST_RUNS) {
             throw new IllegalStateException("no more runs");
         }
+        Movie kept = movie.copy();
         Playthrough played = new Playthrough(game.start);
-        played.follow(movie);
-        Run made = new Run(number, by, chosen, movie.copy(), played);
-        runList[number] = made;
+        played.follow(kept);
+        runList[number] = new Run(number, by, chosen, kept, played);
         runCount = number + 1;
         return number;
     }
 
-    public char verify(int run, int player)
-            throws IndexOutOfBoundsException, UnsupportedOperationException {
+    public char verify(int run, int player) throws IndexOutOfBoundsException, UnsupportedOperationException {
         Run checked = runAt(run);
         Player by = playerAt(player);
         if (checked.state != SUBMITTED || checked.player == by || checked.verifier == by) {
@@ -323,8 +308,7 @@ public final class Speedrunnery {
         return checked.state;
     }
 
-    public boolean reject(int run, int player)
-            throws IndexOutOfBoundsException, UnsupportedOperationException {
+    public boolean reject(int run, int player) throws IndexOutOfBoundsException, UnsupportedOperationException {
         Run checked = runAt(run);
         Player by = playerAt(player);
         if (checked.state != SUBMITTED || checked.player == by) {
@@ -334,13 +318,11 @@ public final class Speedrunnery {
         return checked.verifier != null;
     }
 
-    public char stateOf(int run)
-            throws IndexOutOfBoundsException {
+    public char stateOf(int run) throws IndexOutOfBoundsException {
         return runAt(run).state;
     }
 
-    public int ban(int player)
-            throws IndexOutOfBoundsException, UnsupportedOperationException {
+    public int ban(int player) throws IndexOutOfBoundsException, UnsupportedOperationException {
         Player banned = playerAt(player);
         if (banned.isBannedOn(today)) {
             throw new UnsupportedOperationException("banned");
@@ -376,8 +358,7 @@ public final class Speedrunnery {
         return count;
     }
 
-    public int nextDay(int days)
-            throws IllegalArgumentException {
+    public int nextDay(int days) throws IllegalArgumentException {
         if (days < 1 || days > MOST_DAYS_AT_ONCE || today + days > LAST_DAY) {
             throw new IllegalArgumentException("days out of range");
         }
@@ -410,8 +391,7 @@ public final class Speedrunnery {
         return NONE;
     }
 
-    public long timeOf(int run, char clock)
-            throws IndexOutOfBoundsException, IllegalArgumentException {
+    public long timeOf(int run, char clock) throws IndexOutOfBoundsException, IllegalArgumentException {
         Run asked = runAt(run);
         refuseUnlessClock(clock);
         return asked.played.total(clock);
@@ -430,8 +410,7 @@ public final class Speedrunnery {
         return board[0].number;
     }
 
-    public int stood(int run, int category)
-            throws IndexOutOfBoundsException {
+    public int stood(int run, int category) throws IndexOutOfBoundsException {
         Run asked = runAt(run);
         Category where = categoryAt(category);
         int days = 0;
@@ -449,8 +428,7 @@ public final class Speedrunnery {
         return runCount;
     }
 
-    public float verifiedShare()
-            throws ArithmeticException {
+    public float verifiedShare() throws ArithmeticException {
         if (runCount == 0) {
             throw new ArithmeticException("no runs");
         }
@@ -463,8 +441,7 @@ public final class Speedrunnery {
         return (float) verified / (float) runCount;
     }
 
-    public double meanTime(int category)
-            throws IndexOutOfBoundsException, ArithmeticException {
+    public double meanTime(int category) throws IndexOutOfBoundsException, ArithmeticException {
         Category asked = categoryAt(category);
         fillBoard(asked, today);
         if (boardSize == 0) {
