@@ -66,6 +66,16 @@ final class CategoryPromisesTest {
         Check.argument("18: bad ahead of merged", () -> x.rule(0, 0, 0, 0, 'x'));
         Check.is("18: into which was merged", 2, () -> x.rule(1, 0, 0, 0, 'r'));
         lastOfTheDayCounts();
+        firstRulesStay();
+    }
+
+    private static void firstRulesStay() {
+        Speedrunnery x = row();
+        post(x, 0, 0);
+        x.nextDay(1);
+        x.rule(0, 0, 5, 0, 'r');
+        Check.is("18: on day 0 those as it was made", 0, () -> x.recordOn(0, 0));
+        Check.noElement("18: on day 1 the others", () -> x.recordOn(0, 1));
     }
 
     private static void lastOfTheDayCounts() {

@@ -201,6 +201,7 @@ final class GamePromisesTest {
         x.putItem(5, -1);
         x.putItem(0, -1);
         Check.is("7: none again", 0, x::spheres);
+        Check.noElement("8: none again", () -> x.sphereOf(1));
         x.putItem(5, 3);
         x.erase();
         x.category();
@@ -289,6 +290,9 @@ final class GamePromisesTest {
         x.pause(1);
         Check.is("14: in 11", 11, x::ends);
         Check.is("15: kept", 129, x::had);
+        x.erase();
+        Check.is("14: in 0 again", 0, x::ends);
+        Check.is("15: the item of 0 alone", 1, x::had);
     }
 
     private static void ticks() {
