@@ -483,9 +483,13 @@ final class PlainHouse {
 
     public boolean isShortest(int category) {
         known(category);
-        Law law = law(category, today);
-        Path p = shortest(law);
-        return leastOf(new Path(0, 0, bit(0), List.of()), law) >= (p == null ? Long.MAX_VALUE : p.time);
+        Path p = shortest(law(category, today));
+        return leastOfFewDoors(category) >= (p == null ? Long.MAX_VALUE : p.time);
+    }
+
+    /** The least time of all movies of at most 4 doors that fit, or the greatest number there is. */
+    long leastOfFewDoors(int category) {
+        return leastOf(new Path(0, 0, bit(0), List.of()), law(category, today));
     }
 
     private long leastOf(Path p, Law law) {
