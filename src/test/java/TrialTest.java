@@ -102,11 +102,33 @@ final class TrialTest {
         Check.is("40: it is on no board", true, house::isSound);
     }
 
+    /**
+     * An item that there is not, in a room far off, keeps the table of routes from being made anew: so
+     * it still holds the way to a room farther off, and the trial finds less.
+     */
+    private static void spoiltTable() throws ReflectiveOperationException {
+        Speedrunnery house = Houses.row(3);
+        house.category();
+        house.rule(0, 0, 3, 0, 'r');
+        Check.is("25: at first", true, () -> house.isShortest(0));
+        house.rule(0, 0, 1, 0, 'r');
+        Object room = Array.get(inside(inside(house, "game"), "rooms"), 9);
+        Field item = room.getClass().getDeclaredField("item");
+        item.setAccessible(true);
+        item.set(room, 31);
+        Check.is("25: a movie of few doors takes less time", false, () -> house.isShortest(0));
+        Check.is("40: a movie of few doors takes less time", false, house::isSound);
+        item.set(room, -1);
+        Check.is("25: mended", true, () -> house.isShortest(0));
+        Check.is("40: mended", true, house::isSound);
+    }
+
     public static void main(String[] args) throws ReflectiveOperationException {
         for (int seed = 0; seed < GAMES; seed++) {
             randomGame(seed);
         }
         rowOfRooms();
+        spoiltTable();
         for (int category = 0; category < 5; category++) {
             spoiltRun(category);
         }
