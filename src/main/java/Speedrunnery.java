@@ -27,7 +27,8 @@ public final class Speedrunnery {
     private static final int LONGEST_ROUTE = ROOMS * (ITEMS + 1);
 
     private static final int NONE = -1;
-    private static final long NEVER = Long.MAX_VALUE;
+    /** Longer than any time, and the greatest number there is, written out as LANGUAGE.md lists no name for it. */
+    private static final long NEVER = 0x7fffffffffffffffL;
 
     private static final char REAL = 'r';
     private static final char GAME = 'g';

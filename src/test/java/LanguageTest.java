@@ -11,6 +11,7 @@ import com.sun.source.tree.ImportTree;
 import com.sun.source.tree.LambdaExpressionTree;
 import com.sun.source.tree.LiteralTree;
 import com.sun.source.tree.MemberReferenceTree;
+import com.sun.source.tree.MemberSelectTree;
 import com.sun.source.tree.MethodInvocationTree;
 import com.sun.source.tree.MethodTree;
 import com.sun.source.tree.NewClassTree;
@@ -37,6 +38,7 @@ import javax.lang.model.element.ElementKind;
 import javax.lang.model.element.ExecutableElement;
 import javax.lang.model.element.Modifier;
 import javax.lang.model.element.TypeElement;
+import javax.lang.model.type.TypeKind;
 import javax.lang.model.type.TypeMirror;
 import javax.tools.JavaCompiler;
 import javax.tools.StandardJavaFileManager;
@@ -247,6 +249,17 @@ final class LanguageTest extends TreePathScanner<Void, Void> {
     public Void visitMemberReference(MemberReferenceTree node, Void p) {
         breach(2, "a method reference", node);
         return super.visitMemberReference(node, p);
+    }
+
+    /** The rules list functions of the library, and no field of it but the length of an array. */
+    @Override
+    public Void visitMemberSelect(MemberSelectTree node, Void p) {
+        Element selected = element();
+        boolean isField = selected != null && selected.getKind().isField();
+        TypeMirror of = trees.getTypeMirror(new TreePath(getCurrentPath(), node.getExpression()));
+        boolean isOfArray = of != null && of.getKind() == TypeKind.ARRAY;
+        refuseIf(isField && !isOwn(selected) && !isOfArray, 4, "the field " + node, node);
+        return super.visitMemberSelect(node, p);
     }
 
     @Override
